@@ -768,7 +768,7 @@ public final class WhichDay {
             case OWN:
                 return spot.daysSeen(t);
             case PLACE:
-                return now.dayHere(spot, t);
+                return spot.isUnderWay() ? spot.dayByMidnight(t) : now.dayIn(spot.place, t, now.lineAt);
             case HOME:
                 return now.dayIn(who.home, t, now.lineAt);
             case SHIP:
@@ -776,7 +776,7 @@ public final class WhichDay {
             case TURN:
                 return spot.daysSeen(t) - spot.roundsDone();
             case SETTLED:
-                return who.isSettled(spot, t) ? now.dayHere(spot, t) : now.dayIn(who.home, t, now.lineAt);
+                return now.dayIn(who.isSettled(spot, t) ? spot.place : who.home, t, now.lineAt);
             case STRICT:
                 return now.dayIn(who.home, t, now.lineAt) + (spot.isUnderWay() ? 1 : 0);
             default:
@@ -847,7 +847,7 @@ public final class WhichDay {
         for (int i = 0; i < duties.size; i++) {
             int t = duties.elements[i];
             now.locate(who, eastward, t, spot);
-            if (spot.isUnderWay() && Math.floorMod(now.dayHere(spot, t), 7) == rest) {
+            if (spot.isUnderWay() && Math.floorMod(spot.dayByMidnight(t), 7) == rest) {
                 return i;
             }
         }
@@ -933,10 +933,6 @@ public final class WhichDay {
                 minutes -= QUARTER_OF_A_DAY;
             }
             return Math.floorDiv(minutes, MINUTES_A_DAY) + choices[p];
-        }
-
-        int dayHere(Spot spot, int t) {
-            return spot.isUnderWay() ? spot.dayByMidnight(t) : dayIn(spot.place, t, lineAt);
         }
 
         int wrongWith(int withLine, int t) {

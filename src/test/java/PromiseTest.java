@@ -116,6 +116,14 @@ public final class PromiseTest {
         return x;
     }
 
+    /** Settled from 1500 on in a place whose day is one less than home's. */
+    private static WhichDay settledBack() {
+        WhichDay x = with("p0 0 9;p0 0 9-;");
+        x.traveller(SETTLED, 0, 1);
+        x.leg(0, 1, true, 0, 1);
+        return x;
+    }
+
     /** Two at home, of which the first has day 0 from 0 on, the other one from 720 on. */
     private static WhichDay twoHomes() {
         WhichDay x = with("p0 0 9;p180 0 7;");
@@ -472,6 +480,12 @@ public final class PromiseTest {
                 int told = kind == SHIP && r[0] >= 1500 ? 1 : 0;
                 due("a ship's by kind " + kind + " at " + r[0], r[1 + kind] + told, x.dayBy(SHIP, kind, r[0]));
             }
+        WhichDay far = with("p90 0 1;");
+        far.traveller(HOME, 0, 0);
+        due("own of a home at 90 degrees", 0, far.dayBy(0, OWN, 719));
+        due("own of a home at 90 degrees", 1, far.dayBy(0, OWN, 720));
+        due("count of a home at 90 degrees", 0, far.dayBy(0, COUNT, 1079));
+        due("count of a home at 90 degrees", 1, far.dayBy(0, COUNT, 1080));
         due("no kind", BAD, x.dayBy(0, 8, 0));
         due("no kind", BAD, x.dayBy(0, -1, 0));
         for (int t : NO_MINUTES) due("no minute", BAD, x.dayBy(0, 0, t));
@@ -507,6 +521,11 @@ public final class PromiseTest {
         x.captain(SHIP, 300, 1);
         x.captain(SHIP, 300, -1);
         due("what the captain took back", 1050, x.begins(SHIP, 0));
+        x.captain(SHIP, LAST, 1);
+        due("at the last minute", LAST, x.begins(SHIP, 19800));
+        WhichDay back = settledBack();
+        int[][] backRows = {{0, 1440}, {1440, 1500}, {1499, 1500}, {1500, 2880}, {2880, 4320}};
+        for (int[] r : backRows) due("settled a day back, at " + r[0], r[1], back.begins(0, r[0]));
         for (int t : NO_MINUTES) due("no minute", -1, x.begins(0, t));
         due("no traveller", -1, x.begins(8, 0));
         due("no traveller", -1, x.begins(-1, 0));
@@ -525,6 +544,9 @@ public final class PromiseTest {
         WhichDay turned = overLine(TURN, true);
         due("ahead of the line", 601, turned.longDay(0, 1000));
         due("a day for the second time", 424, turned.longDay(0, 1296));
+        due("a day till one settles", 60, settledBack().longDay(0, 1450));
+        x.captain(SHIP, LAST, 1);
+        due("till the last minute", 19999 - 19440, x.longDay(SHIP, 19500));
         for (int t : NO_MINUTES) due("no minute", -1, x.longDay(0, t));
         due("no traveller", -1, x.longDay(8, 0));
     }
@@ -535,6 +557,8 @@ public final class PromiseTest {
         int[][] rows = {{0, 0, 1}, {0, 694, 1}, {0, 1295, 1}, {0, 1296, 2}, {0, LAST, 2}, {1, 694, 0}, {1, 695, 1}, {1, 1719, 1},
             {1, 1720, 2}, {99, LAST, 0}, {MIN, LAST, 0}, {MAX, LAST, 0}};
         for (int[] r : rows) due("often " + r[0] + " till " + r[1], r[2], x.often(0, r[0], r[1]));
+        due("twice by settling", 2, settledBack().often(0, 1, LAST));
+        due("once till then", 1, settledBack().often(0, 1, 2879));
         WhichDay ship = with("p0 0 1;");
         ship.traveller(SHIP, 0, 0);
         ship.captain(0, 500, 1);
@@ -602,6 +626,10 @@ public final class PromiseTest {
         due("own and ship of no ship", -4, x.part(0, OWN, SHIP, 0));
         x.captain(SHIP, 7000, 1);
         due("own and ship", 7000, x.part(SHIP, OWN, SHIP, 0));
+        x.captain(SHIP, 7001, -1);
+        due("own and ship not any more", -4, x.part(SHIP, OWN, SHIP, 7001));
+        x.captain(SHIP, LAST, -1);
+        due("own and ship at the last minute", LAST, x.part(SHIP, OWN, SHIP, 7001));
         due("one kind twice", -1, x.part(0, OWN, OWN, 0));
         due("no kind", -1, x.part(0, OWN, 8, 0));
         due("no kind", -1, x.part(0, -1, OWN, 0));
@@ -621,6 +649,9 @@ public final class PromiseTest {
         due("wrong(15, 0)", 54, x.wrong(15, 0));
         due("wrong(0, 0)", 98, x.wrong(0, 0));
         due("wrong(195, 0)", 0, x.wrong(195, 0));
+        due("a trade of 1", 1, read(x, "w1 2 1;"));
+        due("wrong(0, 0) with it", 98 + 15, x.wrong(0, 0));
+        due("no trade", 1, read(x, "w1 2 0;"));
         due("the line stays", 180, x.count(3));
         due("no degree", -1, x.wrong(360, 0));
         due("no degree", -1, x.wrong(-1, 0));
@@ -677,6 +708,12 @@ public final class PromiseTest {
         due("a minute too many", -1, x.judge(HOME, 0, 2, 9999));
         x.row(0, 0, 0);
         due("nothing told", -4, x.judge(HOME, 0, LAST, 9999));
+        due("nothing told", -4, x.judge(HOME, 0, 0, 9999));
+        x.row(0, 1, 100);
+        due("a hundred told", -4, x.judge(HOME, 0, 0, 14));
+        due("a hundred told", 97, x.judge(HOME, 0, 82, 14));
+        x.put(0, 99, 1);
+        due("the hundredth wrong", 99, x.judge(HOME, 0, 0, 14));
         due("no step", -1, x.judge(HOME, 0, 0, 0));
         due("no step", -1, x.judge(HOME, 0, 0, 10000));
         for (int t : NO_MINUTES) due("no minute", -1, x.judge(HOME, 0, t, 1));
@@ -720,7 +757,13 @@ public final class PromiseTest {
         for (int t : NO_MINUTES) {
             row(x, 1, 2, 1001, t);
             due("no minute behind one that isn't kept", -13, x.kept(0, 1, 0));
+            row(x, 1, 2, t, 1001);
+            due("no minute ahead of it", -13, x.kept(0, 1, 0));
         }
+        x.row(1, 2, 100);
+        due("a hundred duties", -4, x.kept(0, 1, 0));
+        x.put(1, 99, 1001);
+        due("the hundredth not kept", 99, x.kept(0, 1, 0));
         x.row(1, 2, 0);
         due("no duties", -4, x.kept(0, 1, 0));
     }
@@ -763,6 +806,10 @@ public final class PromiseTest {
         due("all left out", 127, x.log(HOME, 0));
         x.row(0, 2, 0);
         due("nothing written", 127, x.log(HOME, 0));
+        x.row(0, 1, 100);
+        due("fifty pairs", 8, x.log(HOME, 0));
+        x.put(0, 99, 1);
+        due("the last not so", 0, x.log(HOME, 0));
         x.row(0, 2, 3);
         due("odd", -13, x.log(HOME, 0));
         for (int t : new int[] {-1, LAST + 1, MAX}) {
@@ -811,8 +858,22 @@ public final class PromiseTest {
             row(x, 1, 2, 720, 1000, t);
             due("no minute", -13, x.plan(0, 1, 0));
         }
+        x.row(1, 2, 100);
+        due("a hundred duties", 0, x.plan(0, 1, 0));
         x.row(1, 2, 0);
         due("no duties", 0, x.plan(0, 1, 0));
+        allEastward();
+    }
+
+    private static void allEastward() {
+        WhichDay x = with("p220 0 1;p60 0 1;p80 0 1;p110 0 1;p70 0 1;");
+        x.traveller(COUNT, 0, 0);
+        int[] to = {1, 2, 3, 2, 4, 1};
+        int[] from = {755, 845, 935, 1025, 1115, 1195};
+        for (int k = 0; k < 6; k++) x.leg(0, to[k], false, from[k], 1);
+        row(x, 0, 2, 775, 895, 985, 1045, 1165, 1225);
+        due("all legs eastward", 63, x.plan(0, 0, 1));
+        due("as told the first isn't kept", 0, x.kept(0, 0, 1));
     }
 
     // ---- 32 to 34
@@ -861,6 +922,12 @@ public final class PromiseTest {
         }
         read(x, "p7 2 1;");
         due("no trade of old", 0, x.trade(0, 2));
+        WhichDay full = with("p0 0 1;".repeat(10));
+        read(full, "w8 9 7;");
+        full.image();
+        read(full, "w8 9 8;");
+        full.restore();
+        due("the last two places' trade", 7, full.trade(9, 8));
     }
 
     private static void restoreApart() {
@@ -953,6 +1020,9 @@ public final class PromiseTest {
         x.put(0, 99, 7);
         due("anew", 0, x.row(0, 2, 100));
         due("0 at first", 0, x.element(0, 99));
+        x.put(0, 0, 7);
+        x.row(0, 2, 1);
+        due("0 at first", 0, x.element(0, 0));
         x.keep(1, 1, 0);
         due("in place of a traveller", 0, x.row(1, 1, 1));
         due("no traveller", -12, x.weight(1));
@@ -1039,6 +1109,10 @@ public final class PromiseTest {
         due("nothing to a traveller", -11, x.copy(2, 0, 3, 0, 1));
         due("a traveller", -12, x.copy(3, 0, 0, 0, 1));
         due("a traveller", -12, x.copy(0, 0, 3, 0, 1));
+        x.row(3, 1, 5);
+        x.keep(3, 1, 0);
+        due("a traveller where such a row was", -12, x.copy(3, 0, 0, 0, 1));
+        due("a traveller where such a row was", -12, x.copy(0, 0, 3, 0, 1));
         x.row(4, 2, 5);
         due("another sort", -12, x.copy(0, 0, 4, 0, -1));
         due("no shelf", -1, x.copy(8, 0, 2, 0, 1));
