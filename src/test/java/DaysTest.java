@@ -16,6 +16,9 @@ public final class DaysTest {
         beginsAnother();
         beginsOnTheWay();
         beginsAtTheLine();
+        beginsOnALongLeg();
+        beginsAsOneLeaves();
+        beginsWithAllThatCanBe();
         beginsBySettling();
         longFromNoughtAtLeast();
         longFromTheLast();
@@ -137,6 +140,10 @@ public final class DaysTest {
         int[][] rows = {{0, 101}, {99, 101}, {100, 101}, {101, 160}, {159, 160}, {160, 161}, {161, 220}, {219, 220}, {220, 1440},
             {18720, LAST}, {LAST - 1, LAST}, {LAST, -4}};
         for (int[] r : rows) due("a strict one's at " + r[0], r[1], strict.begins(0, r[0]));
+        WhichDay stays = Bench.with("p0 0 1;", STRICT, 0, 1);
+        stays.leg(0, 0, true, 100, 1);
+        due("with a stay, which no strict one looks at", 160, stays.begins(0, 101));
+        due("the same day once more", 1440, stays.begins(0, 160));
         WhichDay place = plain(PLACE);
         place.leg(0, 1, true, 100, 1);
         place.leg(0, 2, true, 500, 1);
@@ -176,6 +183,55 @@ public final class DaysTest {
         for (int[] r : turns) due("there and back at " + r[0], r[1], both.begins(0, r[0]));
         due("day 0 twice", 2, both.often(0, 0, LAST));
         due("day -1 once", 1, both.often(0, -1, LAST));
+    }
+
+    private static void beginsOnALongLeg() {
+        says("BEGINS: on one LEG days go on, back at the LINE, and on again");
+        // 20 degrees in 12000 minutes, the line at 6000: a sunset at each 1440 minutes by 150/151
+        WhichDay east = Bench.with("p170 0 1;p190 0 1;", TURN, 0, 0);
+        east.leg(0, 1, true, 0, 200);
+        int[][] rows = {{0, 398}, {398, 1828}, {3259, 4689}, {4688, 4689}, {4689, 6000}, {5999, 6000}, {6000, 6120}, {6120, 7550}};
+        for (int[] r : rows) due("eastward at " + r[0], r[1], east.begins(0, r[0]));
+        due("a day for the second time", 120, east.longDay(0, 6000));
+        for (int day = 0; day < 8; day++) due("day " + day, day == 3 || day == 4 ? 2 : 1, east.often(0, day, 11999));
+        due("a duty of a day from there", 7550, east.duty(0, 5000, 1));
+        due("parted from its own", 6000, east.part(0, TURN, OWN, 0));
+        WhichDay west = Bench.with("p190 0 1;p170 0 1;", TURN, 0, 0);
+        west.leg(0, 1, false, 0, 200);
+        int[][] back = {{0, 323}, {323, 1772}, {4671, 4672}, {4672, 6001}, {6000, 6001}, {6001, 6121}, {6120, 6121}};
+        for (int[] r : back) due("westward at " + r[0], r[1], west.begins(0, r[0]));
+        due("a short day", 120, west.longDay(0, 6120));
+        due("a duty of a day from there", 6001, west.duty(0, 5000, 1));
+        due("a duty of two days from there", 6121, west.duty(0, 5000, 2));
+    }
+
+    private static void beginsAsOneLeaves() {
+        says("BEGINS: as one leaves a PLACE that chose, though the day is the same again ahead of the end");
+        WhichDay settled = Bench.with("p0 0 1;p0 0 1+;", SETTLED, 0, 0);
+        settled.leg(0, 1, true, 0, 1);
+        settled.leg(0, 0, true, 5000, 24);
+        int[][] rows = {{0, 60}, {60, 1440}, {4320, 5001}, {5000, 5001}, {5001, 5760}, {5760, 7200}};
+        for (int[] r : rows) due("a settled one's at " + r[0], r[1], settled.begins(0, r[0]));
+        due("day 4 twice", 2, settled.often(0, 4, LAST));
+        WhichDay place = Bench.with("p0 0 1+;", PLACE, 0, 0);
+        place.leg(0, 0, true, 1000, 24);
+        int[][] there = {{0, 1001}, {1000, 1001}, {1001, 1440}, {1440, 2440}, {2440, 2880}};
+        for (int[] r : there) due("by the place at " + r[0], r[1], place.begins(0, r[0]));
+    }
+
+    private static void beginsWithAllThatCanBe() {
+        says("BEGINS and its like with six LEGS and eight changes");
+        WhichDay x = Bench.full();
+        // an OWN's: from 180 degrees east of the line 240 degrees eastward, so 960 minutes more; a change each 2000 minutes
+        due("the last change", 14000, x.begins(0, 13999));
+        due("the last day", 18840, x.begins(0, 18839));
+        due("none behind it", -4, x.begins(0, 18840));
+        due("its length", 18840 - 17400, x.longDay(0, 18839));
+        due("the last day once", 1, x.often(0, 22, LAST));
+        due("no day behind it", 0, x.often(0, 23, LAST));
+        due("a duty", 14000, x.duty(0, 13999, 1));
+        due("parted from its own", 0, x.part(0, SHIP, OWN, 0));
+        due("with itself", LAST, x.agree(0, 0, LAST));
     }
 
     private static void beginsBySettling() {

@@ -1,3 +1,8 @@
+import java.lang.reflect.InvocationTargetException;
+import java.lang.reflect.Method;
+import java.lang.reflect.Modifier;
+import java.util.Arrays;
+
 /**
  * THE IMAGE, what is told, SHELVES, and the rows on refusals: the order of
  * several of them, and that a refused call changes nothing. Each sentence has
@@ -47,6 +52,7 @@ public final class RefusalTest {
         orderOfCopy();
         orderInRows();
         thousandMillionsLess();
+        nothingElseThrown();
         Bench.finish();
     }
 
@@ -616,6 +622,55 @@ public final class RefusalTest {
             int day = rest;
             Bench.refused(broken, "kept by no minute behind others", -13, w -> w.kept(0, 0, day));
             Bench.refused(broken, "plan by no minute behind others", -13, w -> w.plan(0, 0, day));
+        }
+    }
+
+    private static final int[] EDGES = {0, -1, 1, 2, 3, 7, 8, 10, 100, 101, LAST, LAST + 1, MIN, MAX};
+
+    private static void nothingElseThrown() {
+        says("A call throws what and where the document says, and nothing else");
+        for (Method m : WhichDay.class.getDeclaredMethods()) {
+            if (!Modifier.isPublic(m.getModifiers())) continue;
+            int n = m.getParameterCount();
+            // fewer edges where there are more numbers, so that all ways to have them stay within bounds
+            int edges = n < 4 ? EDGES.length : n == 4 ? 9 : 7;
+            int ways = 1;
+            for (int i = 0; i < n; i++) ways *= edges;
+            for (Bench.Recipe r : new Bench.Recipe[] {SOME, FULL, FRESH}) {
+                WhichDay x = null;
+                int thrown = 0;
+                for (int way = 0; way < ways; way++) {
+                    if (way % 300 == 0) x = r.make();
+                    thrown += wildCall(x, m, way, edges);
+                }
+                due(ways + " calls of " + m.getName() + " that threw", 0, thrown);
+            }
+        }
+    }
+
+    /** How many exceptions came that the document doesn't tell. */
+    private static int wildCall(WhichDay x, Method m, int way, int edges) {
+        Object[] numbers = new Object[m.getParameterCount()];
+        int rest = way;
+        for (int i = 0; i < numbers.length; i++) {
+            int edge = rest % edges;
+            rest /= edges;
+            // with few edges the last ones are those far off
+            int v = EDGES[edge < edges - 2 ? edge : EDGES.length - edges + edge];
+            if (m.getParameterTypes()[i] == boolean.class) numbers[i] = v % 2 == 0;
+            else numbers[i] = v;
+        }
+        try {
+            m.invoke(x, numbers);
+            return 0;
+        } catch (InvocationTargetException e) {
+            boolean told = m.getName().equals("element") && (e.getCause().getClass() == IllegalArgumentException.class
+                    || e.getCause().getClass() == IllegalStateException.class);
+            if (!told) System.out.println(m.getName() + Arrays.toString(numbers) + " threw " + e.getCause());
+            return told ? 0 : 1;
+        } catch (IllegalAccessException e) {
+            System.out.println(m.getName() + " can't be called");
+            return 1;
         }
     }
 
