@@ -2,14 +2,7 @@
  * The document's 'Terms': each sentence there that names a boundary case has a
  * test of its own, on the boundary, just inside it and just outside it.
  */
-public final class TermsTest {
-    private static final int MIN = Bench.MIN, MAX = Bench.MAX, LAST = Bench.LAST, BAD = Bench.BAD;
-    private static final long BAD_LONG = Bench.BAD_LONG;
-    private static final int COUNT = Bench.COUNT, OWN = Bench.OWN, PLACE = Bench.PLACE, HOME = Bench.HOME, SHIP = Bench.SHIP,
-            TURN = Bench.TURN, SETTLED = Bench.SETTLED, STRICT = Bench.STRICT;
-    private static final int BYTES = Bench.BYTES, SHORTS = Bench.SHORTS, INTS = Bench.INTS;
-    private static final Bench.Recipe SOME = Bench.SOME, FULL = Bench.FULL;
-
+public final class TermsTest extends Bench {
     public static void main(String[] args) {
         minutesThatAre();
         minutesThatAreNot();
@@ -56,22 +49,14 @@ public final class TermsTest {
         rowSizes();
         rowSorts();
         lowestBits();
-        Bench.finish();
-    }
-
-    private static void says(String words) {
-        Bench.says(words);
-    }
-
-    private static void due(String what, long want, long got) {
-        Bench.due(what, want, got);
+        finish();
     }
 
     // ---- MINUTES
 
     /** A traveller of a kind at home in place 1, whose day by midnight is t by 1440. */
     private static WhichDay atHome(int kind) {
-        return Bench.with("p180 0 9;p0 0 7;", kind, 1, 0);
+        return with("p180 0 9;p0 0 7;", kind, 1, 0);
     }
 
     private static void minutesThatAre() {
@@ -92,10 +77,10 @@ public final class TermsTest {
             due("a leg from " + t, 1, x.leg(0, 0, true, t, 1));
             WhichDay ship = atHome(SHIP);
             due("a change at " + t, 1, ship.captain(0, t, 1));
-            Bench.row(ship, 0, INTS, t, t);
+            row(ship, 0, INTS, t, t);
             due("duties at " + t, -4, ship.kept(0, 0, 0));
             due("a plan for " + t, 0, ship.plan(0, 0, 0));
-            Bench.row(ship, 0, INTS, t, ship.dayBy(0, OWN, t));
+            row(ship, 0, INTS, t, ship.dayBy(0, OWN, t));
             due("a log at " + t, 8, ship.log(0, 0));
         }
     }
@@ -103,62 +88,62 @@ public final class TermsTest {
     private static void minutesThatAreNot() {
         says("MINUTES t are 0 .. 19999: no others");
         int[] none = {-1, LAST + 1, MIN, MAX};
-        Bench.refusedFor(SOME, "dayOf", BAD, (x, t) -> x.dayOf(0, t), none);
-        Bench.refusedFor(SOME, "hourOf", -1, (x, t) -> x.hourOf(0, t), none);
-        Bench.refusedFor(SOME, "leg", -1, (x, t) -> x.leg(2, 0, true, t, 1), none);
-        Bench.refusedFor(SOME, "captain", -1, (x, t) -> x.captain(1, t, 1), none);
-        Bench.refusedFor(SOME, "where", BAD_LONG, (x, t) -> x.where(0, t, 0), none);
-        Bench.refusedFor(SOME, "in", -1, (x, t) -> x.in(0, t), none);
-        Bench.refusedFor(SOME, "day", BAD, (x, t) -> x.day(0, t), none);
-        Bench.refusedFor(SOME, "dayBy", BAD, (x, t) -> x.dayBy(0, 0, t), none);
-        Bench.refusedFor(SOME, "gain", BAD, (x, t) -> x.gain(0, 0, t), none);
-        Bench.refusedFor(SOME, "begins", -1, (x, t) -> x.begins(0, t), none);
-        Bench.refusedFor(SOME, "longDay", -1, (x, t) -> x.longDay(0, t), none);
-        Bench.refusedFor(SOME, "often", -1, (x, t) -> x.often(0, 0, t), none);
-        Bench.refusedFor(SOME, "duty", -1, (x, t) -> x.duty(0, t, 0), none);
-        Bench.refusedFor(SOME, "differ", BAD, (x, t) -> x.differ(0, 1, t), none);
-        Bench.refusedFor(SOME, "agree", -1, (x, t) -> x.agree(0, 1, t), none);
-        Bench.refusedFor(SOME, "part", -1, (x, t) -> x.part(0, 0, 1, t), none);
-        Bench.refusedFor(SOME, "wrong", -1, (x, t) -> x.wrong(0, t), none);
-        Bench.refusedFor(SOME, "bestLine", -1, (x, t) -> x.bestLine(t, 0), none);
-        Bench.refusedFor(SOME, "moved", -1, (x, t) -> x.moved(0, t), none);
-        Bench.refusedFor(SOME, "judge", -1, (x, t) -> x.judge(0, 3, t, 1), none);
-        Bench.refusedFor(SOME, "judge of no elements", -1, (x, t) -> x.judge(0, 5, t, 1), none);
-        Bench.refusedFor(SOME, "rounds", BAD, (x, t) -> x.rounds(0, t), none);
+        refusedFor(SOME, "dayOf", BAD, (x, t) -> x.dayOf(0, t), none);
+        refusedFor(SOME, "hourOf", -1, (x, t) -> x.hourOf(0, t), none);
+        refusedFor(SOME, "leg", -1, (x, t) -> x.leg(2, 0, true, t, 1), none);
+        refusedFor(SOME, "captain", -1, (x, t) -> x.captain(1, t, 1), none);
+        refusedFor(SOME, "where", BAD_LONG, (x, t) -> x.where(0, t, 0), none);
+        refusedFor(SOME, "in", -1, (x, t) -> x.in(0, t), none);
+        refusedFor(SOME, "day", BAD, (x, t) -> x.day(0, t), none);
+        refusedFor(SOME, "dayBy", BAD, (x, t) -> x.dayBy(0, 0, t), none);
+        refusedFor(SOME, "gain", BAD, (x, t) -> x.gain(0, 0, t), none);
+        refusedFor(SOME, "begins", -1, (x, t) -> x.begins(0, t), none);
+        refusedFor(SOME, "longDay", -1, (x, t) -> x.longDay(0, t), none);
+        refusedFor(SOME, "often", -1, (x, t) -> x.often(0, 0, t), none);
+        refusedFor(SOME, "duty", -1, (x, t) -> x.duty(0, t, 0), none);
+        refusedFor(SOME, "differ", BAD, (x, t) -> x.differ(0, 1, t), none);
+        refusedFor(SOME, "agree", -1, (x, t) -> x.agree(0, 1, t), none);
+        refusedFor(SOME, "part", -1, (x, t) -> x.part(0, 0, 1, t), none);
+        refusedFor(SOME, "wrong", -1, (x, t) -> x.wrong(0, t), none);
+        refusedFor(SOME, "bestLine", -1, (x, t) -> x.bestLine(t, 0), none);
+        refusedFor(SOME, "moved", -1, (x, t) -> x.moved(0, t), none);
+        refusedFor(SOME, "judge", -1, (x, t) -> x.judge(0, 3, t, 1), none);
+        refusedFor(SOME, "judge of no elements", -1, (x, t) -> x.judge(0, 5, t, 1), none);
+        refusedFor(SOME, "rounds", BAD, (x, t) -> x.rounds(0, t), none);
     }
 
     // ---- PLACES
 
     private static void places() {
         says("PLACES 0 .. 9 as they come");
-        WhichDay x = Bench.full();
+        WhichDay x = full();
         for (int p = 0; p < 10; p++) due("degree of place " + p, p < 9 ? 40 * p : 359, x.place(p, 0));
         due("trade with the last", 0, x.trade(0, 9));
         due("choice of the last", 0, x.choose(9, 1));
         due("day of the last", 0, x.dayOf(9, 5));
         due("hour of the last", 1, x.hourOf(9, 5));
         due("to the last", 1, x.leg(7, 9, true, 0, 1));
-        WhichDay one = Bench.with("p5 0 1;");
+        WhichDay one = with("p5 0 1;");
         due("the only one", 5, one.place(0, 0));
-        for (Bench.Recipe r : new Bench.Recipe[] {FULL, SOME, Bench.FRESH}) {
+        for (Recipe r : new Recipe[] {FULL, SOME, FRESH}) {
             int n = r == FULL ? 10 : r == SOME ? 3 : 0;
-            Bench.refusedFor(r, "place", BAD, (w, p) -> w.place(p, 0), n, -1, MIN, MAX);
-            Bench.refusedFor(r, "trade", -1, (w, p) -> w.trade(0, p), n, -1, MIN, MAX);
-            Bench.refusedFor(r, "trade", -1, (w, p) -> w.trade(p, 0), n, -1, MIN, MAX);
-            Bench.refusedFor(r, "choose", BAD, (w, p) -> w.choose(p, 1), n, -1, MIN, MAX);
-            Bench.refusedFor(r, "dayOf", BAD, (w, p) -> w.dayOf(p, 0), n, -1, MIN, MAX);
-            Bench.refusedFor(r, "hourOf", -1, (w, p) -> w.hourOf(p, 0), n, -1, MIN, MAX);
-            Bench.refusedFor(r, "traveller", -1, (w, p) -> w.traveller(0, p, 0), n, -1, MIN, MAX);
-            Bench.refusedFor(r, "leg", -1, (w, p) -> w.leg(1, p, true, 9000, 1), n, -1, MIN, MAX);
+            refusedFor(r, "place", BAD, (w, p) -> w.place(p, 0), n, -1, MIN, MAX);
+            refusedFor(r, "trade", -1, (w, p) -> w.trade(0, p), n, -1, MIN, MAX);
+            refusedFor(r, "trade", -1, (w, p) -> w.trade(p, 0), n, -1, MIN, MAX);
+            refusedFor(r, "choose", BAD, (w, p) -> w.choose(p, 1), n, -1, MIN, MAX);
+            refusedFor(r, "dayOf", BAD, (w, p) -> w.dayOf(p, 0), n, -1, MIN, MAX);
+            refusedFor(r, "hourOf", -1, (w, p) -> w.hourOf(p, 0), n, -1, MIN, MAX);
+            refusedFor(r, "traveller", -1, (w, p) -> w.traveller(0, p, 0), n, -1, MIN, MAX);
+            refusedFor(r, "leg", -1, (w, p) -> w.leg(1, p, true, 9000, 1), n, -1, MIN, MAX);
         }
-        WhichDay last = Bench.with("p0 0 1;".repeat(9) + "p7 0 1;");
+        WhichDay last = with("p0 0 1;".repeat(9) + "p7 0 1;");
         due("a home in the last", 0, last.traveller(0, 9, 0));
         due("in the last", 9, last.in(0, 0));
     }
 
     private static void degrees() {
         says("a DEGREE (0 .. 359, eastward)");
-        WhichDay x = Bench.with("p0 0 1;p1 0 1;p358 0 1;p359 0 1;");
+        WhichDay x = with("p0 0 1;p1 0 1;p358 0 1;p359 0 1;");
         int[] want = {0, 1, 358, 359};
         for (int p = 0; p < 4; p++) due("degree", want[p], x.place(p, 0));
         int was = 180;
@@ -169,9 +154,9 @@ public final class TermsTest {
             due("line", degree, x.count(3));
             was = degree;
         }
-        Bench.refusedFor(SOME, "line", -1, (w, n) -> w.line(n), -1, 360, MIN, MAX);
-        Bench.refusedFor(SOME, "wrong", -1, (w, n) -> w.wrong(n, 0), -1, 360, MIN, MAX);
-        Bench.refusedFor(SOME, "moved", -1, (w, n) -> w.moved(n, 0), -1, 360, MIN, MAX);
+        refusedFor(SOME, "line", -1, (w, n) -> w.line(n), -1, 360, MIN, MAX);
+        refusedFor(SOME, "wrong", -1, (w, n) -> w.wrong(n, 0), -1, 360, MIN, MAX);
+        refusedFor(SOME, "moved", -1, (w, n) -> w.moved(n, 0), -1, 360, MIN, MAX);
         // eastward: a degree more is 4 minutes more
         due("hour of 0 with the line at 359", 724, x.hourOf(0, 0));
         due("hour of 1 with the line at 359", 728, x.hourOf(1, 0));
@@ -179,17 +164,17 @@ public final class TermsTest {
 
     private static void rules() {
         says("a RULE (0 MIDNIGHT, 1 SUNSET, 2 DAWN: where days begin)");
-        WhichDay x = Bench.with("p0 0 1;p0 1 1;p0 2 1;");
+        WhichDay x = with("p0 0 1;p0 1 1;p0 2 1;");
         for (int p = 0; p < 3; p++) due("rule", p, x.place(p, 1));
         WhichDay y = new WhichDay();
-        due("a rule 3", -2000, Bench.read(y, "p0 3 1;"));
-        due("a rule 999", -2000, Bench.read(y, "p0 999 1;"));
+        due("a rule 3", -2000, read(y, "p0 3 1;"));
+        due("a rule 999", -2000, read(y, "p0 999 1;"));
         due("none came", 0, y.count(0));
     }
 
     private static void choices() {
         says("a CHOICE (-1, 0, 1)");
-        WhichDay x = Bench.with("p0 0 1-;p0 0 1;p0 0 1+;");
+        WhichDay x = with("p0 0 1-;p0 0 1;p0 0 1+;");
         for (int p = 0; p < 3; p++) due("choice", p - 1, x.place(p, 2));
         for (int p = 0; p < 3; p++) due("day", p - 1, x.dayOf(p, 0));
         int was = -1;
@@ -198,17 +183,17 @@ public final class TermsTest {
             due("chosen", n, x.place(0, 2));
             was = n;
         }
-        Bench.refusedFor(SOME, "choose", BAD, (w, n) -> w.choose(1, n), -2, 2, MIN, MAX);
+        refusedFor(SOME, "choose", BAD, (w, n) -> w.choose(1, n), -2, 2, MIN, MAX);
     }
 
     private static void people() {
         says("PEOPLE (0 .. 999)");
-        WhichDay x = Bench.with("p0 0 0;p0 0 1;p0 0 998;p0 0 999;");
+        WhichDay x = with("p0 0 0;p0 0 1;p0 0 998;p0 0 999;");
         int[] want = {0, 1, 998, 999};
         for (int p = 0; p < 4; p++) due("people", want[p], x.place(p, 3));
         due("all", 1998, x.count(4));
-        due("too many", -1008, Bench.read(new WhichDay(), "p0 0 1000;"));
-        WhichDay most = Bench.with("p0 0 999;".repeat(10));
+        due("too many", -1008, read(new WhichDay(), "p0 0 1000;"));
+        WhichDay most = with("p0 0 999;".repeat(10));
         due("most of all", 9990, most.count(4));
     }
 
@@ -225,7 +210,7 @@ public final class TermsTest {
 
     private static void eastOfTheLine() {
         says("EAST of the LINE by e: x less the LINE, 360 more till it is 0 or more, below 360");
-        WhichDay x = Bench.with("p0 0 1;p1 0 1;p179 0 1;p180 0 1;p181 0 1;p358 0 1;p359 0 1;");
+        WhichDay x = with("p0 0 1;p1 0 1;p179 0 1;p180 0 1;p181 0 1;p358 0 1;p359 0 1;");
         // hour at 0: 4 e less 720, of a day; e 0: 720, 1: 724, 359: 716; day at 0: below 0 till e is 180
         int[][] rows = {{180, 3, 0}, {180, 4, 1}, {180, 2, 359}, {0, 0, 0}, {0, 1, 1}, {0, 6, 359}, {0, 5, 358}, {359, 6, 0}, {359, 0, 1},
             {359, 5, 359}, {1, 0, 359}, {1, 1, 0}, {358, 0, 2}, {181, 3, 359}, {179, 3, 1}};
@@ -234,7 +219,7 @@ public final class TermsTest {
             due("hour of place " + r[1] + " with the line at " + r[0], (4 * r[2] + 720) % 1440, x.hourOf(r[1], 0));
             due("day of place " + r[1] + " with the line at " + r[0], r[2] < 180 ? -1 : 0, x.dayOf(r[1], 0));
         }
-        WhichDay half = Bench.with("p179 0 1;p180 0 1;p181 0 1;l0;");
+        WhichDay half = with("p179 0 1;p180 0 1;p181 0 1;l0;");
         due("e 179", -1, half.dayOf(0, 0));
         due("e 180", 0, half.dayOf(1, 0));
         due("e 181", 0, half.dayOf(2, 0));
@@ -242,12 +227,12 @@ public final class TermsTest {
 
     private static void eastOfTheLineByFractions() {
         says("EAST of the LINE .. below 360 (fractions count)");
-        WhichDay west = Bench.with("p1 0 1;p359 0 1;l0;", COUNT, 0, 0);
+        WhichDay west = with("p1 0 1;p359 0 1;l0;", COUNT, 0, 0);
         west.leg(0, 1, false, 0, 1);
         due("a thirtieth of a degree ahead of the line", -1, west.day(0, 29));
         due("on it", -1, west.day(0, 30));
         due("a thirtieth west of it", 0, west.day(0, 31));
-        WhichDay east = Bench.with("p359 0 1;p1 0 1;l0;", COUNT, 0, 0);
+        WhichDay east = with("p359 0 1;p1 0 1;l0;", COUNT, 0, 0);
         east.leg(0, 1, true, 0, 1);
         due("a thirtieth of a degree west of the line", 0, east.day(0, 29));
         due("on it", -1, east.day(0, 30));
@@ -256,20 +241,20 @@ public final class TermsTest {
 
     private static void dayRoundedDown() {
         says("DAY at x by a RULE: .. by 1440, rounded down");
-        WhichDay x = Bench.with("p180 0 1;");
+        WhichDay x = with("p180 0 1;");
         int[][] rows = {{0, -1}, {719, -1}, {720, 0}, {721, 0}, {2159, 0}, {2160, 1}, {2161, 1}};
         for (int[] r : rows) due("day at " + r[0], r[1], x.dayOf(0, r[0]));
         // a degree in an hour: 4 minutes in 60; at 718 it is 4/5 of a minute below 0
-        WhichDay east = Bench.with("p0 0 1;p1 0 1;l0;", COUNT, 0, 0);
+        WhichDay east = with("p0 0 1;p1 0 1;l0;", COUNT, 0, 0);
         east.leg(0, 1, true, 700, 1);
         due("4/5 of a minute below 0", -1, east.day(0, 718));
         due("4/15 of a minute above", 0, east.day(0, 719));
-        WhichDay west = Bench.with("p1 0 1;p0 0 1;l0;", COUNT, 0, 0);
+        WhichDay west = with("p1 0 1;p0 0 1;l0;", COUNT, 0, 0);
         west.leg(0, 1, false, 700, 1);
         due("2/15 of a minute below 0", -1, west.day(0, 717));
         due("4/5 of a minute above", 0, west.day(0, 718));
         // 15 degrees in an hour: a minute in a minute, so that 0 is met exactly
-        WhichDay even = Bench.with("p0 0 1;p15 0 1;l0;", COUNT, 0, 0);
+        WhichDay even = with("p0 0 1;p15 0 1;l0;", COUNT, 0, 0);
         even.leg(0, 1, true, 700, 1);
         due("two minutes below 0", -1, even.day(0, 709));
         due("just 0", 0, even.day(0, 710));
@@ -277,7 +262,7 @@ public final class TermsTest {
 
     private static void dayByRules() {
         says("360 more by SUNSET, 360 less by DAWN");
-        WhichDay x = Bench.with("p0 0 1;p0 1 1;p0 2 1;");
+        WhichDay x = with("p0 0 1;p0 1 1;p0 2 1;");
         int[][] rows = {{0, 0, 0}, {0, 1439, 0}, {0, 1440, 1}, {1, 0, 0}, {1, 1079, 0}, {1, 1080, 1}, {1, 2519, 1}, {1, 2520, 2},
             {2, 0, -1}, {2, 359, -1}, {2, 360, 0}, {2, 1799, 0}, {2, 1800, 1}};
         for (int[] r : rows) due("day by rule " + r[0] + " at " + r[1], r[2], x.dayOf(r[0], r[1]));
@@ -285,11 +270,11 @@ public final class TermsTest {
 
     private static void dayOutermost() {
         says("and the CHOICE of the PLACE, if one is in one: the least and the greatest DAY");
-        WhichDay x = Bench.with("p180 2 1-;p179 1 1+;");
+        WhichDay x = with("p180 2 1-;p179 1 1+;");
         int[][] rows = {{0, 0, -2}, {0, 1079, -2}, {0, 1080, -1}, {1, LAST, 15}, {1, 19083, 14}, {1, 19084, 15}};
         for (int[] r : rows) due("day of " + r[0] + " at " + r[1], r[2], x.dayOf(r[0], r[1]));
         // under way there is no choice, and no rule but midnight
-        WhichDay y = Bench.with("p0 1 1+;p0 2 1-;", PLACE, 0, 0);
+        WhichDay y = with("p0 1 1+;p0 2 1-;", PLACE, 0, 0);
         y.leg(0, 1, true, 1100, 1);
         due("in the first place", 2, y.day(0, 1100));
         due("under way", 0, y.day(0, 1101));
@@ -299,7 +284,7 @@ public final class TermsTest {
 
     private static void hour() {
         says("HOUR: the minutes of its day by MIDNIGHT (0 .. 1439), cut to whole ones");
-        WhichDay x = Bench.with("p0 0 1;p0 1 1;p0 2 1-;p180 0 1;p179 0 1;");
+        WhichDay x = with("p0 0 1;p0 1 1;p0 2 1-;p180 0 1;p179 0 1;");
         int[][] rows = {{0, 0, 0}, {0, 1, 1}, {0, 1438, 1438}, {0, 1439, 1439}, {0, 1440, 0}, {1, 1439, 1439}, {1, 1440, 0},
             {2, 1439, 1439}, {2, 0, 0}, {3, 0, 720}, {3, 719, 1439}, {3, 720, 0}, {4, 0, 716}, {4, 723, 1439}, {4, 724, 0}};
         for (int[] r : rows) due("hour of " + r[0] + " at " + r[1], r[2], x.hourOf(r[0], r[1]));
@@ -309,44 +294,44 @@ public final class TermsTest {
 
     private static void travellers() {
         says("TRAVELLERS 0 .. 7 as they come");
-        WhichDay x = Bench.with("p0 0 1;");
+        WhichDay x = with("p0 0 1;");
         for (int k = 0; k < 8; k++) {
             due("so many", k, x.count(1));
             due("its number", k, x.traveller(COUNT, 0, 0));
         }
         due("the last one", 0, x.day(7, 0));
-        Bench.refused(FULL, "a ninth", -2, w -> w.traveller(COUNT, 0, 0));
-        for (Bench.Recipe r : new Bench.Recipe[] {FULL, SOME, Bench.FRESH}) {
+        refused(FULL, "a ninth", -2, w -> w.traveller(COUNT, 0, 0));
+        for (Recipe r : new Recipe[] {FULL, SOME, FRESH}) {
             int n = r == FULL ? 8 : r == SOME ? 3 : 0;
             int[] none = {n, -1, MIN, MAX};
-            Bench.refusedFor(r, "leg", -1, (w, k) -> w.leg(k, 0, true, 9000, 1), none);
-            Bench.refusedFor(r, "captain", -1, (w, k) -> w.captain(k, 0, 1), none);
-            Bench.refusedFor(r, "where", BAD_LONG, (w, k) -> w.where(k, 0, 0), none);
-            Bench.refusedFor(r, "in", -1, (w, k) -> w.in(k, 0), none);
-            Bench.refusedFor(r, "day", BAD, (w, k) -> w.day(k, 0), none);
-            Bench.refusedFor(r, "dayBy", BAD, (w, k) -> w.dayBy(k, 0, 0), none);
-            Bench.refusedFor(r, "gain", BAD, (w, k) -> w.gain(k, 0, 0), none);
-            Bench.refusedFor(r, "begins", -1, (w, k) -> w.begins(k, 0), none);
-            Bench.refusedFor(r, "longDay", -1, (w, k) -> w.longDay(k, 0), none);
-            Bench.refusedFor(r, "often", -1, (w, k) -> w.often(k, 0, 0), none);
-            Bench.refusedFor(r, "duty", -1, (w, k) -> w.duty(k, 0, 0), none);
-            Bench.refusedFor(r, "differ", BAD, (w, k) -> w.differ(k, 0, 0), none);
-            Bench.refusedFor(r, "differ", BAD, (w, k) -> w.differ(0, k, 0), none);
-            Bench.refusedFor(r, "agree", -1, (w, k) -> w.agree(k, 0, 0), none);
-            Bench.refusedFor(r, "agree", -1, (w, k) -> w.agree(0, k, 0), none);
-            Bench.refusedFor(r, "part", -1, (w, k) -> w.part(k, 0, 1, 0), none);
-            Bench.refusedFor(r, "judge", -1, (w, k) -> w.judge(k, 4, 0, 1), none);
-            Bench.refusedFor(r, "kept", -1, (w, k) -> w.kept(k, 4, 0), none);
-            Bench.refusedFor(r, "rounds", BAD, (w, k) -> w.rounds(k, 0), none);
-            Bench.refusedFor(r, "log", -1, (w, k) -> w.log(k, 3), none);
-            Bench.refusedFor(r, "plan", -1, (w, k) -> w.plan(k, 4, 0), none);
-            Bench.refusedFor(r, "keep", -1, (w, k) -> w.keep(2, 1, k), none);
+            refusedFor(r, "leg", -1, (w, k) -> w.leg(k, 0, true, 9000, 1), none);
+            refusedFor(r, "captain", -1, (w, k) -> w.captain(k, 0, 1), none);
+            refusedFor(r, "where", BAD_LONG, (w, k) -> w.where(k, 0, 0), none);
+            refusedFor(r, "in", -1, (w, k) -> w.in(k, 0), none);
+            refusedFor(r, "day", BAD, (w, k) -> w.day(k, 0), none);
+            refusedFor(r, "dayBy", BAD, (w, k) -> w.dayBy(k, 0, 0), none);
+            refusedFor(r, "gain", BAD, (w, k) -> w.gain(k, 0, 0), none);
+            refusedFor(r, "begins", -1, (w, k) -> w.begins(k, 0), none);
+            refusedFor(r, "longDay", -1, (w, k) -> w.longDay(k, 0), none);
+            refusedFor(r, "often", -1, (w, k) -> w.often(k, 0, 0), none);
+            refusedFor(r, "duty", -1, (w, k) -> w.duty(k, 0, 0), none);
+            refusedFor(r, "differ", BAD, (w, k) -> w.differ(k, 0, 0), none);
+            refusedFor(r, "differ", BAD, (w, k) -> w.differ(0, k, 0), none);
+            refusedFor(r, "agree", -1, (w, k) -> w.agree(k, 0, 0), none);
+            refusedFor(r, "agree", -1, (w, k) -> w.agree(0, k, 0), none);
+            refusedFor(r, "part", -1, (w, k) -> w.part(k, 0, 1, 0), none);
+            refusedFor(r, "judge", -1, (w, k) -> w.judge(k, 4, 0, 1), none);
+            refusedFor(r, "kept", -1, (w, k) -> w.kept(k, 4, 0), none);
+            refusedFor(r, "rounds", BAD, (w, k) -> w.rounds(k, 0), none);
+            refusedFor(r, "log", -1, (w, k) -> w.log(k, 3), none);
+            refusedFor(r, "plan", -1, (w, k) -> w.plan(k, 4, 0), none);
+            refusedFor(r, "keep", -1, (w, k) -> w.keep(2, 1, k), none);
         }
     }
 
     private static void kinds() {
         says("KINDS of COUNTS: 0 COUNT .. 7 STRICT");
-        WhichDay x = Bench.with("p0 0 1;");
+        WhichDay x = with("p0 0 1;");
         for (int kind = 0; kind < 8; kind++) {
             due("of kind " + kind, kind, x.traveller(kind, 0, 0));
             due("by kind " + kind, 0, x.dayBy(0, kind, 0));
@@ -355,16 +340,16 @@ public final class TermsTest {
         due("by the first and the last kind", -4, x.part(0, COUNT, STRICT, 0));
         due("by the last and the first kind", -4, x.part(0, STRICT, COUNT, 0));
         int[] none = {-1, 8, MIN, MAX};
-        Bench.refusedFor(SOME, "traveller", -1, (w, n) -> w.traveller(n, 0, 0), none);
-        Bench.refusedFor(SOME, "dayBy", BAD, (w, n) -> w.dayBy(0, n, 0), none);
-        Bench.refusedFor(SOME, "gain", BAD, (w, n) -> w.gain(0, n, 0), none);
-        Bench.refusedFor(SOME, "part", -1, (w, n) -> w.part(0, n, 0, 0), none);
-        Bench.refusedFor(SOME, "part", -1, (w, n) -> w.part(0, 7, n, 0), none);
+        refusedFor(SOME, "traveller", -1, (w, n) -> w.traveller(n, 0, 0), none);
+        refusedFor(SOME, "dayBy", BAD, (w, n) -> w.dayBy(0, n, 0), none);
+        refusedFor(SOME, "gain", BAD, (w, n) -> w.gain(0, n, 0), none);
+        refusedFor(SOME, "part", -1, (w, n) -> w.part(0, n, 0, 0), none);
+        refusedFor(SOME, "part", -1, (w, n) -> w.part(0, 7, n, 0), none);
     }
 
     private static void stay() {
         says("a STAY (0 .. 30 days)");
-        WhichDay x = Bench.with("p0 0 1;");
+        WhichDay x = with("p0 0 1;");
         int[] stays = {0, 1, 29, 30};
         for (int k = 0; k < 4; k++) {
             due("with a stay of " + stays[k], k, x.traveller(SETTLED, 0, stays[k]));
@@ -373,7 +358,7 @@ public final class TermsTest {
         }
         for (int kind = 0; kind < 8; kind++) {
             int ofKind = kind;
-            Bench.refusedFor(SOME, "traveller of kind " + kind, -1, (w, n) -> w.traveller(ofKind, 0, n), -1, 31, MIN, MAX);
+            refusedFor(SOME, "traveller of kind " + kind, -1, (w, n) -> w.traveller(ofKind, 0, n), -1, 31, MIN, MAX);
         }
     }
 
@@ -381,7 +366,7 @@ public final class TermsTest {
 
     private static void mostLegs() {
         says("LEGS (6 at most each, told in order)");
-        WhichDay x = Bench.with("p0 0 1;p60 0 1;", COUNT, 0, 0);
+        WhichDay x = with("p0 0 1;p60 0 1;", COUNT, 0, 0);
         x.traveller(COUNT, 0, 0);
         for (int k = 0; k < 6; k++) due("leg " + k, k + 1, x.leg(0, 1 - k % 2, true, 60 * k, 1));
         due("a seventh", -2, x.leg(0, 1, true, 360, 1));
@@ -389,21 +374,21 @@ public final class TermsTest {
         due("six", 6, x.count(2));
         due("another one's first", 1, x.leg(1, 1, true, 0, 1));
         due("seven in all", 7, x.count(2));
-        Bench.refused(FULL, "a seventh leg", -2, w -> w.leg(0, 0, true, 9000, 1));
-        Bench.refused(FULL, "a seventh leg from the end on", -2, w -> w.leg(0, 0, true, 870, 1));
+        refused(FULL, "a seventh leg", -2, w -> w.leg(0, 0, true, 9000, 1));
+        refused(FULL, "a seventh leg from the end on", -2, w -> w.leg(0, 0, true, 870, 1));
     }
 
     private static void fromMinutesOn() {
         says("from a MINUTE on (not ahead of the end of the LEG ahead)");
         for (int from : new int[] {160, 161}) {
-            WhichDay x = Bench.with("p0 0 1;p60 0 1;", COUNT, 0, 0);
+            WhichDay x = with("p0 0 1;p60 0 1;", COUNT, 0, 0);
             x.leg(0, 1, true, 100, 1);
             due("from " + from, 2, x.leg(0, 0, true, from, 1));
         }
         // the second leg of traveller 0 ends at 1600, the only one of 1 at 2200
-        Bench.refusedFor(SOME, "leg", -3, (w, t) -> w.leg(0, 0, true, t, 1), 1599, 1000, 160, 0);
-        Bench.refusedFor(SOME, "leg", -3, (w, t) -> w.leg(1, 0, true, t, 1), 2199, 1001, 1000, 999, 0);
-        WhichDay first = Bench.with("p0 0 1;", COUNT, 0, 0);
+        refusedFor(SOME, "leg", -3, (w, t) -> w.leg(0, 0, true, t, 1), 1599, 1000, 160, 0);
+        refusedFor(SOME, "leg", -3, (w, t) -> w.leg(1, 0, true, t, 1), 2199, 1001, 1000, 999, 0);
+        WhichDay first = with("p0 0 1;", COUNT, 0, 0);
         due("the first from 0", 1, first.leg(0, 0, true, 0, 1));
         due("another one from its end", 2, first.leg(0, 0, true, 60, 1));
     }
@@ -411,12 +396,12 @@ public final class TermsTest {
     private static void hours() {
         says("so many HOURS (1 .. 200)");
         for (int hours : new int[] {1, 2, 199, 200}) {
-            WhichDay x = Bench.with("p0 0 1;p60 0 1;", COUNT, 0, 0);
+            WhichDay x = with("p0 0 1;p60 0 1;", COUNT, 0, 0);
             due("a leg of " + hours, 1, x.leg(0, 1, true, 10, hours));
             due("ahead of its end", -4, x.in(0, 10 + 60 * hours - 1));
             due("at its end", 1, x.in(0, 10 + 60 * hours));
         }
-        Bench.refusedFor(SOME, "leg", -1, (w, n) -> w.leg(0, 0, true, 9000, n), 0, 201, -1, MIN, MAX);
+        refusedFor(SOME, "leg", -1, (w, n) -> w.leg(0, 0, true, 9000, n), 0, 201, -1, MIN, MAX);
     }
 
     private static void endBehindAll() {
@@ -424,7 +409,7 @@ public final class TermsTest {
         int[][] rows = {{LAST - 60, 1, 1}, {LAST - 59, 1, -4}, {LAST - 1, 1, -4}, {LAST, 1, 0}, {LAST, 200, 0}, {LAST - 12000, 200, 1},
             {LAST - 11999, 200, -4}};
         for (int[] r : rows) {
-            WhichDay x = Bench.with("p0 0 1;p60 0 1;", COUNT, 0, 0);
+            WhichDay x = with("p0 0 1;p60 0 1;", COUNT, 0, 0);
             due("from " + r[0], 1, x.leg(0, 1, true, r[0], r[1]));
             due("in at the last minute", r[2], x.in(0, LAST));
             due("one more from the last minute on", r[2] == 1 ? 2 : -3, x.leg(0, 1, true, LAST, 1));
@@ -438,7 +423,7 @@ public final class TermsTest {
         for (int[] r : rows) {
             int east = (r[1] - r[0] + 360) % 360, west = (r[0] - r[1] + 360) % 360;
             for (boolean isEast : new boolean[] {true, false}) {
-                WhichDay x = Bench.with("p" + r[0] + " 0 1;p" + r[1] + " 0 1;", COUNT, 0, 0);
+                WhichDay x = with("p" + r[0] + " 0 1;p" + r[1] + " 0 1;", COUNT, 0, 0);
                 x.leg(0, 1, isEast, 0, 2);
                 int half = 2 * r[0] + (isEast ? east : -west);
                 half = half < 0 ? half + 720 : half >= 720 ? half - 720 : half;
@@ -447,10 +432,10 @@ public final class TermsTest {
                 due("at the end", r[1], x.where(0, 120, 0));
             }
         }
-        WhichDay far = Bench.with("p0 0 1;p359 0 1;", COUNT, 0, 0);
+        WhichDay far = with("p0 0 1;p359 0 1;", COUNT, 0, 0);
         far.leg(0, 1, true, 0, 1);
         due("359 degrees gone east: on from the line", 1, far.rounds(0, 60));
-        WhichDay back = Bench.with("p0 0 1;p1 0 1;", COUNT, 0, 0);
+        WhichDay back = with("p0 0 1;p1 0 1;", COUNT, 0, 0);
         back.leg(0, 1, false, 0, 1);
         due("359 degrees gone west: back over the line", -1, back.rounds(0, 60));
     }
@@ -459,7 +444,7 @@ public final class TermsTest {
         says("by 0 one is UNDER WAY, too");
         for (boolean east : new boolean[] {true, false})
             for (int to = 0; to < 2; to++) {
-                WhichDay x = Bench.with("p70 0 1;p70 0 1;", STRICT, 0, 0);
+                WhichDay x = with("p70 0 1;p70 0 1;", STRICT, 0, 0);
                 x.leg(0, to, east, 10, 1);
                 int[][] rows = {{9, 0, 0}, {10, 0, 0}, {11, -4, 1}, {40, -4, 1}, {69, -4, 1}, {70, to, 0}, {71, to, 0}};
                 for (int[] r : rows) {
@@ -474,7 +459,7 @@ public final class TermsTest {
 
     private static void firstAndLastMinuteOfALeg() {
         says("At its first MINUTE one is still, at its end already, in a PLACE; between these UNDER WAY");
-        WhichDay x = Bench.with("p0 0 1;p60 0 1;p90 0 1;", COUNT, 0, 0);
+        WhichDay x = with("p0 0 1;p60 0 1;p90 0 1;", COUNT, 0, 0);
         x.leg(0, 1, true, 0, 1);
         x.leg(0, 2, true, 60, 1);
         x.leg(0, 0, true, 121, 2);
@@ -485,7 +470,7 @@ public final class TermsTest {
 
     private static void aheadBetweenBehind() {
         says("Ahead of the first LEG one is at HOME, between LEGS and behind them where one came");
-        WhichDay x = Bench.with("p0 0 1;p60 0 1;p90 0 1;", COUNT, 2, 0);
+        WhichDay x = with("p0 0 1;p60 0 1;p90 0 1;", COUNT, 2, 0);
         due("without legs", 2, x.in(0, 0));
         due("without legs", 2, x.in(0, LAST));
         x.leg(0, 1, true, 1000, 1);
@@ -498,11 +483,11 @@ public final class TermsTest {
 
     private static void whereRoundTheWorld() {
         says("WHERE: DEGREE of HOME and GONE, 360 more or less till it is 0 or more, below 360");
-        WhichDay east = Bench.with("p359 0 1;p0 0 1;p1 0 1;", COUNT, 0, 0);
+        WhichDay east = with("p359 0 1;p0 0 1;p1 0 1;", COUNT, 0, 0);
         east.leg(0, 2, true, 100, 2);
         long[][] rows = {{100, 359, 1}, {159, 359 * 60 + 59, 60}, {160, 0, 1}, {161, 1, 60}, {220, 1, 1}};
         for (long[] r : rows) where(east, r);
-        WhichDay west = Bench.with("p1 0 1;p0 0 1;p359 0 1;", COUNT, 0, 0);
+        WhichDay west = with("p1 0 1;p0 0 1;p359 0 1;", COUNT, 0, 0);
         west.leg(0, 2, false, 100, 2);
         long[][] back = {{100, 1, 1}, {159, 1, 60}, {160, 0, 1}, {161, 359 * 60 + 59, 60}, {220, 359, 1}};
         for (long[] r : back) where(west, r);
@@ -522,30 +507,30 @@ public final class TermsTest {
     private static WhichDay manyRounds(boolean east) {
         StringBuilder s = new StringBuilder("l0;");
         for (int p = 0; p < 7; p++) s.append("p").append(east ? (360 - p) % 360 : p).append(" 0 1;");
-        WhichDay x = Bench.with(s.toString(), COUNT, 0, 0);
+        WhichDay x = with(s.toString(), COUNT, 0, 0);
         for (int k = 0; k < 6; k++) x.leg(0, k + 1, east, 60 * k, 1);
         return x;
     }
 
     private static void whereInLeastTerms() {
         says("WHERE at t: above, below the line, in least terms");
-        WhichDay x = Bench.with("p0 0 1;p90 0 1;", COUNT, 0, 0);
+        WhichDay x = with("p0 0 1;p90 0 1;", COUNT, 0, 0);
         x.leg(0, 1, true, 0, 1);
         long[][] rows = {{0, 0, 1}, {1, 3, 2}, {2, 3, 1}, {20, 30, 1}, {59, 177, 2}, {60, 90, 1}};
         for (long[] r : rows) where(x, r);
-        WhichDay slow = Bench.with("p0 0 1;p1 0 1;", COUNT, 0, 0);
+        WhichDay slow = with("p0 0 1;p1 0 1;", COUNT, 0, 0);
         slow.leg(0, 1, true, 0, 200);
         long[][] slowly = {{1, 1, 12000}, {2, 1, 6000}, {7, 7, 12000}, {3000, 1, 4}, {11999, 11999, 12000}, {12000, 1, 1}};
         for (long[] r : slowly) where(slow, r);
-        WhichDay far = Bench.with("p0 0 1;p359 0 1;", COUNT, 0, 0);
+        WhichDay far = with("p0 0 1;p359 0 1;", COUNT, 0, 0);
         far.leg(0, 1, true, 0, 200);
         where(far, new long[] {11999, 4307641, 12000});
-        Bench.refusedFor(SOME, "where", BAD_LONG, (w, part) -> w.where(0, 0, part), -1, 2, MIN, MAX);
+        refusedFor(SOME, "where", BAD_LONG, (w, part) -> w.where(0, 0, part), -1, 2, MIN, MAX);
     }
 
     private static void homesDay() {
         says("HOME's DAY: DAY there by its RULE and CHOICE");
-        WhichDay x = Bench.with("p0 1 1+;p90 0 1;", HOME, 0, 0);
+        WhichDay x = with("p0 1 1+;p90 0 1;", HOME, 0, 0);
         x.leg(0, 1, true, 0, 1);
         int[][] rows = {{0, 1}, {30, 1}, {1079, 1}, {1080, 2}};
         for (int[] r : rows) due("day at " + r[0], r[1], x.day(0, r[0]));
@@ -553,7 +538,7 @@ public final class TermsTest {
 
     private static void heresDay() {
         says("HERE's DAY: .. by RULE and CHOICE of the PLACE if one is in one, UNDER WAY by MIDNIGHT");
-        WhichDay x = Bench.with("p0 2 1;p0 1 1+;", PLACE, 0, 0);
+        WhichDay x = with("p0 2 1;p0 1 1+;", PLACE, 0, 0);
         x.leg(0, 1, true, 100, 1);
         int[][] rows = {{0, -1}, {100, -1}, {101, 0}, {159, 0}, {160, 1}, {1079, 1}, {1080, 2}};
         for (int[] r : rows) due("day at " + r[0], r[1], x.day(0, r[0]));
@@ -561,10 +546,10 @@ public final class TermsTest {
 
     private static void seen() {
         says("SEEN: ( t and 4 times (EAST of HOME, and GONE) less 720 ), 360 more (sunsets), by 1440, rounded down");
-        WhichDay x = Bench.with("p180 0 1;", OWN, 0, 0);
+        WhichDay x = with("p180 0 1;", OWN, 0, 0);
         int[][] rows = {{0, -1}, {359, -1}, {360, 0}, {1799, 0}, {1800, 1}};
         for (int[] r : rows) due("seen at " + r[0], r[1], x.day(0, r[0]));
-        WhichDay east = Bench.with("p180 0 1;p181 0 1;", OWN, 0, 0);
+        WhichDay east = with("p180 0 1;p181 0 1;", OWN, 0, 0);
         east.leg(0, 1, true, 340, 1);
         due("4/5 of a minute below 0", -1, east.day(0, 358));
         due("4/15 of a minute above", 0, east.day(0, 359));
@@ -581,23 +566,23 @@ public final class TermsTest {
 
     private static void roundsRoundedDown() {
         says("ROUNDS: EAST of HOME and GONE, by 360, rounded down");
-        WhichDay east = Bench.with("p179 0 1;p181 0 1;", COUNT, 0, 0);
+        WhichDay east = with("p179 0 1;p181 0 1;", COUNT, 0, 0);
         east.leg(0, 1, true, 0, 1);
         int[][] rows = {{0, 0}, {29, 0}, {30, 1}, {31, 1}, {LAST, 1}};
         for (int[] r : rows) due("rounds at " + r[0], r[1], east.rounds(0, r[0]));
-        WhichDay west = Bench.with("p181 0 1;p179 0 1;", COUNT, 0, 0);
+        WhichDay west = with("p181 0 1;p179 0 1;", COUNT, 0, 0);
         west.leg(0, 1, false, 0, 1);
         int[][] back = {{0, 0}, {29, 0}, {30, 0}, {31, -1}, {LAST, -1}};
         for (int[] r : back) due("rounds at " + r[0], r[1], west.rounds(0, r[0]));
         due("2154 degrees", 5, manyRounds(true).rounds(0, 360));
         due("2154 degrees less", -6, manyRounds(false).rounds(0, 360));
         // a whole round and no more: 359 and 1 degrees
-        WhichDay whole = Bench.with("p0 0 1;p359 0 1;l0;", COUNT, 0, 0);
+        WhichDay whole = with("p0 0 1;p359 0 1;l0;", COUNT, 0, 0);
         whole.leg(0, 1, true, 0, 1);
         whole.leg(0, 0, true, 60, 1);
         due("a minute ahead of a round", 0, whole.rounds(0, 119));
         due("a round", 1, whole.rounds(0, 120));
-        WhichDay minus = Bench.with("p0 0 1;p1 0 1;l0;", COUNT, 0, 0);
+        WhichDay minus = with("p0 0 1;p1 0 1;l0;", COUNT, 0, 0);
         minus.leg(0, 1, false, 0, 1);
         minus.leg(0, 0, false, 60, 1);
         due("just less", -1, minus.rounds(0, 1));
@@ -608,7 +593,7 @@ public final class TermsTest {
 
     private static void count() {
         says("COUNT: HERE's by MIDNIGHT without CHOICE");
-        WhichDay x = Bench.with("p0 1 1+;p0 2 1-;", COUNT, 0, 0);
+        WhichDay x = with("p0 1 1+;p0 2 1-;", COUNT, 0, 0);
         x.leg(0, 1, true, 1000, 1);
         for (int t : new int[] {0, 1000, 1001, 1059, 1060, 1439}) due("at " + t, 0, x.day(0, t));
         due("the next", 1, x.day(0, 1440));
@@ -616,7 +601,7 @@ public final class TermsTest {
 
     private static void own() {
         says("OWN: SEEN");
-        WhichDay x = Bench.with("p0 0 1+;", OWN, 0, 0);
+        WhichDay x = with("p0 0 1+;", OWN, 0, 0);
         due("without rule and choice", 0, x.day(0, 1079));
         due("from sunset on", 1, x.day(0, 1080));
         x.line(90);
@@ -626,7 +611,7 @@ public final class TermsTest {
 
     private static void ship() {
         says("SHIP: an OWN's and what the captain told (sums of changes .. at or ahead of t)");
-        WhichDay x = Bench.with("p0 0 1;", SHIP, 0, 0);
+        WhichDay x = with("p0 0 1;", SHIP, 0, 0);
         x.captain(0, 500, 1);
         due("ahead of it", 0, x.day(0, 499));
         due("at it", 1, x.day(0, 500));
@@ -645,31 +630,31 @@ public final class TermsTest {
 
     private static void mostChanges() {
         says("changes, 1 or -1 each, told for MINUTES (8 at most)");
-        WhichDay x = Bench.with("p0 0 1;", SHIP, 0, 0);
+        WhichDay x = with("p0 0 1;", SHIP, 0, 0);
         x.traveller(SHIP, 0, 0);
         for (int i = 1; i <= 8; i++) due("change " + i, i, x.captain(0, 0, -1));
         due("all of them", -8, x.day(0, 0));
         due("of another one the first", 1, x.captain(1, 0, 1));
-        Bench.refused(FULL, "a ninth change", -2, w -> w.captain(0, 0, 1));
-        Bench.refused(FULL, "a ninth change", -2, w -> w.captain(0, LAST, -1));
-        Bench.refusedFor(SOME, "captain", -1, (w, by) -> w.captain(1, 0, by), 0, 2, -2, MIN, MAX);
+        refused(FULL, "a ninth change", -2, w -> w.captain(0, 0, 1));
+        refused(FULL, "a ninth change", -2, w -> w.captain(0, LAST, -1));
+        refusedFor(SOME, "captain", -1, (w, by) -> w.captain(1, 0, by), 0, 2, -2, MIN, MAX);
     }
 
     private static void turn() {
         says("TURN: an OWN's less ROUNDS (eastward over the LINE a day is twice, westward one is not)");
-        WhichDay east = Bench.with("p179 0 1;p181 0 1;", TURN, 0, 0);
+        WhichDay east = with("p179 0 1;p181 0 1;", TURN, 0, 0);
         east.leg(0, 1, true, 0, 1);
         // t and 4 times 359 less 360: day 0 till the line, then one less; from 360 on (at 181: 356) day 0 again
         int[][] rows = {{0, 0}, {29, 0}, {30, -1}, {355, -1}, {356, 0}};
         for (int[] r : rows) due("eastward at " + r[0], r[1], east.day(0, r[0]));
         due("day 0 is twice", 2, east.often(0, 0, LAST));
-        WhichDay west = Bench.with("p181 0 1;p179 0 1;", TURN, 0, 0);
+        WhichDay west = with("p181 0 1;p179 0 1;", TURN, 0, 0);
         west.leg(0, 1, false, 330, 1);
         // on the line at 360: day 0, from -1 on; behind it one more
         int[][] back = {{355, -1}, {357, -1}, {359, -1}, {360, 0}, {361, 1}, {362, 1}};
         for (int[] r : back) due("westward at " + r[0], r[1], west.day(0, r[0]));
         due("day 0 for a minute", 1, west.longDay(0, 360));
-        WhichDay never = Bench.with("p181 0 1;p179 0 1;", TURN, 0, 0);
+        WhichDay never = with("p181 0 1;p179 0 1;", TURN, 0, 0);
         never.leg(0, 1, false, 1000, 1);
         // at 1030 on the line day 0, behind it day 1; that ends at 1440 and 364 more
         due("on the line", 0, never.day(0, 1030));
@@ -680,7 +665,7 @@ public final class TermsTest {
     private static void settledFrom() {
         says("SETTLED: .. from STAY times 1440 MINUTES behind the end of the last LEG that came there on, a PLACE's");
         for (int stay : new int[] {0, 1, 2, 13}) {
-            WhichDay x = Bench.with("p0 0 1;p0 0 1+;", SETTLED, 0, stay);
+            WhichDay x = with("p0 0 1;p0 0 1+;", SETTLED, 0, stay);
             x.leg(0, 1, true, 0, 1);
             int from = 60 + 1440 * stay;
             due("ahead of it with a stay of " + stay, 0, x.gain(0, SETTLED, from - 1));
@@ -689,12 +674,12 @@ public final class TermsTest {
         }
         int[][] rows = {{1219, 1}, {1220, 0}};
         for (int[] r : rows) {
-            WhichDay x = Bench.with("p0 0 1;p0 0 1+;", SETTLED, 0, 13);
+            WhichDay x = with("p0 0 1;p0 0 1+;", SETTLED, 0, 13);
             x.leg(0, 1, true, r[0], 1);
             due("a stay till the last minute from " + r[0], r[1], x.gain(0, SETTLED, LAST));
         }
         for (int stay : new int[] {14, 30}) {
-            WhichDay x = Bench.with("p0 0 1;p0 0 1+;", SETTLED, 0, stay);
+            WhichDay x = with("p0 0 1;p0 0 1+;", SETTLED, 0, stay);
             x.leg(0, 1, true, 0, 1);
             due("never with a stay of " + stay, 0, x.gain(0, SETTLED, LAST));
         }
@@ -702,21 +687,21 @@ public final class TermsTest {
 
     private static void settledElsewhere() {
         says("SETTLED: HOME's; but in a PLACE (of another number than HOME)");
-        WhichDay x = Bench.with("p0 0 1;p0 0 1+;", SETTLED, 0, 0);
+        WhichDay x = with("p0 0 1;p0 0 1+;", SETTLED, 0, 0);
         due("at home", 0, x.day(0, 0));
         x.leg(0, 1, true, 100, 1);
         x.leg(0, 0, true, 300, 1);
         x.leg(0, 0, true, 500, 1);
         int[][] rows = {{100, 0}, {101, 0}, {159, 0}, {160, 1}, {300, 1}, {301, 0}, {360, 0}, {500, 0}, {560, 0}};
         for (int[] r : rows) due("at " + r[0], r[1], x.day(0, r[0]));
-        WhichDay last = Bench.with("p0 0 1;p0 0 1;p5 1 1;p0 0 1-;", SETTLED, 1, 0);
+        WhichDay last = with("p0 0 1;p0 0 1;p5 1 1;p0 0 1-;", SETTLED, 1, 0);
         last.leg(0, 3, false, 0, 1);
         due("another number, the same degree", -1, last.day(0, 60));
     }
 
     private static void settledLastLeg() {
         says("SETTLED: behind the end of the last LEG that came there");
-        WhichDay x = Bench.with("p0 0 1;p0 0 1+;p0 0 1-;", SETTLED, 0, 1);
+        WhichDay x = with("p0 0 1;p0 0 1+;p0 0 1-;", SETTLED, 0, 1);
         x.leg(0, 1, true, 0, 1);
         x.leg(0, 2, true, 2000, 1);
         x.leg(0, 1, true, 4000, 1);
@@ -727,7 +712,7 @@ public final class TermsTest {
 
     private static void strict() {
         says("STRICT: HOME's, 1 more while UNDER WAY");
-        WhichDay x = Bench.with("p0 2 1+;p0 0 1;", STRICT, 0, 0);
+        WhichDay x = with("p0 2 1+;p0 0 1;", STRICT, 0, 0);
         x.leg(0, 1, true, 400, 1);
         int[][] rows = {{359, 0}, {360, 1}, {400, 1}, {401, 2}, {459, 2}, {460, 1}, {1799, 1}, {1800, 2}};
         for (int[] r : rows) due("at " + r[0], r[1], x.day(0, r[0]));
@@ -742,7 +727,7 @@ public final class TermsTest {
         int[] least = {10, 11, 20, 10, 11, 22, 20, 110};
         int[] most = {16, 17, 32, 25, 25, 34, 62, 125};
         for (int kind = 0; kind < 8; kind++) {
-            WhichDay x = Bench.with(ten);
+            WhichDay x = with(ten);
             x.traveller(kind, 0, 0);
             x.traveller(kind, 9, 30);
             for (int k = 0; k < 6; k++) x.leg(1, 0, true, 60 * k, 1);
@@ -758,7 +743,7 @@ public final class TermsTest {
 
     private static void shelves() {
         says("SHELVES 0 .. 7 each hold nothing (at first)");
-        WhichDay x = Bench.with("p0 0 1;", COUNT, 0, 0);
+        WhichDay x = with("p0 0 1;", COUNT, 0, 0);
         WhichDay y = new WhichDay();
         for (int d = 0; d < 8; d++) {
             due("nothing at first on " + d, -11, y.weight(d));
@@ -768,20 +753,20 @@ public final class TermsTest {
         }
         for (int d = 0; d < 8; d++) due("still nothing on " + d, -11, y.put(d, 0, 0));
         int[] none = {-1, 8, MIN, MAX};
-        Bench.refusedFor(SOME, "world", -1, (w, d) -> w.world(d), none);
-        Bench.refusedFor(SOME, "judge", -1, (w, d) -> w.judge(0, d, 0, 1), none);
-        Bench.refusedFor(SOME, "kept", -1, (w, d) -> w.kept(0, d, 0), none);
-        Bench.refusedFor(SOME, "log", -1, (w, d) -> w.log(0, d), none);
-        Bench.refusedFor(SOME, "plan", -1, (w, d) -> w.plan(0, d, 0), none);
-        Bench.refusedFor(SOME, "keep", -1, (w, d) -> w.keep(d, 1, 0), none);
-        Bench.refusedFor(SOME, "keep nothing", -1, (w, d) -> w.keep(d, 0, 0), none);
-        Bench.refusedFor(SOME, "row", -1, (w, d) -> w.row(d, INTS, 1), none);
-        Bench.refusedFor(SOME, "put", -1, (w, d) -> w.put(d, 0, 9), none);
-        Bench.refusedFor(SOME, "element", Long.MIN_VALUE, (w, d) -> Bench.element(w, d, 0), none);
-        Bench.refusedFor(SOME, "copy", -1, (w, d) -> w.copy(d, 0, 3, 1, 1), none);
-        Bench.refusedFor(SOME, "copy", -1, (w, d) -> w.copy(3, 0, d, 1, 1), none);
-        Bench.refusedFor(SOME, "weight", -1, (w, d) -> w.weight(d), none);
-        Bench.refusedFor(SOME, "toss", -1, (w, d) -> w.toss(d), none);
+        refusedFor(SOME, "world", -1, (w, d) -> w.world(d), none);
+        refusedFor(SOME, "judge", -1, (w, d) -> w.judge(0, d, 0, 1), none);
+        refusedFor(SOME, "kept", -1, (w, d) -> w.kept(0, d, 0), none);
+        refusedFor(SOME, "log", -1, (w, d) -> w.log(0, d), none);
+        refusedFor(SOME, "plan", -1, (w, d) -> w.plan(0, d, 0), none);
+        refusedFor(SOME, "keep", -1, (w, d) -> w.keep(d, 1, 0), none);
+        refusedFor(SOME, "keep nothing", -1, (w, d) -> w.keep(d, 0, 0), none);
+        refusedFor(SOME, "row", -1, (w, d) -> w.row(d, INTS, 1), none);
+        refusedFor(SOME, "put", -1, (w, d) -> w.put(d, 0, 9), none);
+        refusedFor(SOME, "element", Long.MIN_VALUE, (w, d) -> element(w, d, 0), none);
+        refusedFor(SOME, "copy", -1, (w, d) -> w.copy(d, 0, 3, 1, 1), none);
+        refusedFor(SOME, "copy", -1, (w, d) -> w.copy(3, 0, d, 1, 1), none);
+        refusedFor(SOME, "weight", -1, (w, d) -> w.weight(d), none);
+        refusedFor(SOME, "toss", -1, (w, d) -> w.toss(d), none);
     }
 
     private static void rowSizes() {
@@ -790,16 +775,16 @@ public final class TermsTest {
             for (int n : new int[] {0, 1, 99, 100}) {
                 WhichDay x = new WhichDay();
                 due("a row of " + n, 0, x.row(0, sort, n));
-                for (int i = 0; i < n; i++) due("element " + i, 0, Bench.element(x, 0, i));
-                due("none behind them", Long.MAX_VALUE, Bench.element(x, 0, n));
-                due("none ahead of them", Long.MAX_VALUE, Bench.element(x, 0, -1));
+                for (int i = 0; i < n; i++) due("element " + i, 0, element(x, 0, i));
+                due("none behind them", Long.MAX_VALUE, element(x, 0, n));
+                due("none ahead of them", Long.MAX_VALUE, element(x, 0, -1));
                 due("put in the last", n == 0 ? -13 : 0, x.put(0, n - 1, 1));
                 due("put behind it", -13, x.put(0, n, 1));
                 due("all of it onto itself", n, x.copy(0, 0, 0, 0, n));
                 due("one more than all", -13, x.copy(0, 0, 0, 0, n + 1));
             }
-        Bench.refusedFor(SOME, "row", -1, (w, n) -> w.row(3, SHORTS, n), 101, MAX);
-        Bench.refusedFor(SOME, "row", -14, (w, n) -> w.row(3, SHORTS, n), -1, MIN);
+        refusedFor(SOME, "row", -1, (w, n) -> w.row(3, SHORTS, n), 101, MAX);
+        refusedFor(SOME, "row", -14, (w, n) -> w.row(3, SHORTS, n), -1, MIN);
     }
 
     private static void rowSorts() {
@@ -812,7 +797,7 @@ public final class TermsTest {
         due("a byte", 0x78, x.element(0, 0));
         due("a short", 0x5678, x.element(1, 0));
         due("an int", 0x12345678, x.element(2, 0));
-        Bench.refusedFor(SOME, "row", -1, (w, sort) -> w.row(3, sort, 4), -1, 3, MIN, MAX);
+        refusedFor(SOME, "row", -1, (w, sort) -> w.row(3, sort, 4), -1, 3, MIN, MAX);
     }
 
     private static void lowestBits() {

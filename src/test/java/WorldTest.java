@@ -2,9 +2,7 @@
  * The document's part 2, A WORLD: each sentence there that names a boundary
  * case has a test of its own, on the boundary, just inside it and outside it.
  */
-public final class WorldTest {
-    private static final int COUNT = Bench.COUNT, BYTES = Bench.BYTES;
-    private static final Bench.Recipe SOME = Bench.SOME, FULL = Bench.FULL;
+public final class WorldTest extends Bench {
     private static final String DIGITS = "0123456789";
 
     public static void main(String[] args) {
@@ -32,36 +30,28 @@ public final class WorldTest {
         withAFaultNothing();
         rowStays();
         notARowOfBytes();
-        Bench.finish();
-    }
-
-    private static void says(String words) {
-        Bench.says(words);
-    }
-
-    private static void due(String what, long want, long got) {
-        Bench.due(what, want, got);
+        finish();
     }
 
     /** What a new object answers to a text. */
     private static int read(String s) {
-        return Bench.read(new WhichDay(), s);
+        return read(new WhichDay(), s);
     }
 
     /** A text with a fault, on objects that have nothing, something, all: the answer, and nothing else is another one. */
     private static void fault(int want, String s) {
-        Bench.Recipe fresh = () -> {
+        Recipe fresh = () -> {
             WhichDay x = new WhichDay();
-            Bench.text(x, 0, s);
+            text(x, 0, s);
             return x;
         };
-        Bench.Recipe some = () -> {
-            WhichDay x = Bench.some();
-            Bench.text(x, 0, s);
+        Recipe some = () -> {
+            WhichDay x = some();
+            text(x, 0, s);
             return x;
         };
-        Bench.refused(fresh, "\"" + s + "\"", want, x -> x.world(0));
-        if (want > -2000) Bench.refused(some, "\"" + s + "\" where something is", want, x -> x.world(0));
+        refused(fresh, "\"" + s + "\"", want, x -> x.world(0));
+        if (want > -2000) refused(some, "\"" + s + "\" where something is", want, x -> x.world(0));
     }
 
     // ---- the form
@@ -219,7 +209,7 @@ public final class WorldTest {
         fault(-1100, lines + "l100");
         due("the last statement of 100 bytes", -2095, read("l10;l10;" + "l0;".repeat(29) + "l360;"));
         WhichDay x = new WhichDay();
-        Bench.read(x, "l10;l10;" + "l0;".repeat(29) + "l359;");
+        read(x, "l10;l10;" + "l0;".repeat(29) + "l359;");
         due("the last line told", 359, x.count(3));
     }
 
@@ -250,7 +240,7 @@ public final class WorldTest {
         says("HOW MUCH (0 .. 99)");
         String two = "p0 0 1;p1 0 1;";
         for (int n : new int[] {0, 1, 98, 99}) {
-            WhichDay x = Bench.with(two + "w0 1 " + n + ";");
+            WhichDay x = with(two + "w0 1 " + n + ";");
             due("trade", n, x.trade(0, 1));
             due("the other way", n, x.trade(1, 0));
             due("pairs that trade", n == 0 ? 0 : 1, x.count(5));
@@ -262,7 +252,7 @@ public final class WorldTest {
 
     private static void perhapsAChoice() {
         says("then perhaps + or - (CHOICE 1, -1)");
-        WhichDay x = Bench.with("p0 0 1;p0 0 1+;p0 0 1-;");
+        WhichDay x = with("p0 0 1;p0 0 1+;p0 0 1-;");
         due("none", 0, x.place(0, 2));
         due("+", 1, x.place(1, 2));
         due("-", -1, x.place(2, 2));
@@ -286,14 +276,14 @@ public final class WorldTest {
         fault(-2000, "w0 1 5;");
         fault(-2000, "w0 1 5;" + two);
         fault(-2007, "p0 0 1;w0 1 5;p1 0 1;");
-        Bench.Recipe full = () -> {
-            WhichDay x = Bench.full();
-            Bench.text(x, 0, "w9 10 5;");
+        Recipe full = () -> {
+            WhichDay x = full();
+            text(x, 0, "w9 10 5;");
             return x;
         };
-        Bench.refused(full, "a tenth with an eleventh", -2000, x -> x.world(0));
-        WhichDay x = Bench.full();
-        due("the last two of ten", 1, Bench.read(x, "w9 8 5;"));
+        refused(full, "a tenth with an eleventh", -2000, x -> x.world(0));
+        WhichDay x = full();
+        due("the last two of ten", 1, read(x, "w9 8 5;"));
         due("they trade", 5, x.trade(8, 9));
     }
 
@@ -310,18 +300,18 @@ public final class WorldTest {
         due("nine", 9, read(place.repeat(9)));
         due("ten", 10, read(place.repeat(10)));
         fault(-2070, place.repeat(11));
-        WhichDay nine = Bench.with(place.repeat(9));
-        due("two more than nine", -2007, Bench.read(nine, place + place));
+        WhichDay nine = with(place.repeat(9));
+        due("two more than nine", -2007, read(nine, place + place));
         due("still nine", 9, nine.count(0));
-        due("one more than nine", 1, Bench.read(nine, place));
+        due("one more than nine", 1, read(nine, place));
         due("ten now", 10, nine.count(0));
-        Bench.Recipe full = () -> {
-            WhichDay x = Bench.full();
-            Bench.text(x, 0, "l5;w0 1 7;p0 0 1;l6;");
+        Recipe full = () -> {
+            WhichDay x = full();
+            text(x, 0, "l5;w0 1 7;p0 0 1;l6;");
             return x;
         };
-        Bench.refused(full, "an eleventh behind others", -2010, x -> x.world(0));
-        due("no place more, but others", 2, Bench.read(Bench.full(), "l5;w0 1 7;"));
+        refused(full, "an eleventh behind others", -2010, x -> x.world(0));
+        due("no place more, but others", 2, read(full(), "l5;w0 1 7;"));
     }
 
     private static void kindOneAheadOfKindTwo() {
@@ -346,29 +336,29 @@ public final class WorldTest {
         says("STATEMENTS are tried one behind the other, each on what those ahead of it made");
         due("a place and its trade", 3, read("p0 0 1;p0 0 1;w0 1 5;"));
         fault(-2007, "p0 0 1;w1 0 5;p0 0 1;");
-        WhichDay x = Bench.with("p0 0 1;");
-        due("with one that was there", 2, Bench.read(x, "p9 0 1;w1 0 5;"));
+        WhichDay x = with("p0 0 1;");
+        due("with one that was there", 2, read(x, "p9 0 1;w1 0 5;"));
         due("they trade", 5, x.trade(0, 1));
     }
 
     private static void lastTradeCounts() {
         says("they trade so (of several the last, both ways)");
-        WhichDay x = Bench.with("p0 0 1;p0 0 1;w0 1 5;w1 0 6;w0 1 7;");
+        WhichDay x = with("p0 0 1;p0 0 1;w0 1 5;w1 0 6;w0 1 7;");
         due("the last", 7, x.trade(0, 1));
         due("both ways", 7, x.trade(1, 0));
         due("one pair", 1, x.count(5));
-        Bench.read(x, "w1 0 0;");
+        read(x, "w1 0 0;");
         due("in another text", 0, x.trade(0, 1));
         due("no pair", 0, x.count(5));
-        WhichDay lines = Bench.with("l1;l2;l3;");
+        WhichDay lines = with("l1;l2;l3;");
         due("of lines the last, too", 3, lines.count(3));
     }
 
     private static void comesToWhatThereIs() {
         says("Without FAULT all of it comes (to what there is)");
-        WhichDay x = Bench.with("p1 0 1;p2 0 2;w0 1 5;l9;");
+        WhichDay x = with("p1 0 1;p2 0 2;w0 1 5;l9;");
         due("a traveller", 0, x.traveller(COUNT, 1, 0));
-        due("more", 2, Bench.read(x, "p3 2 3-;w2 0 4;"));
+        due("more", 2, read(x, "p3 2 3-;w2 0 4;"));
         int[] counts = {3, 1, 0, 9, 6, 2};
         for (int what = 0; what < 6; what++) due("count " + what, counts[what], x.count(what));
         due("as it was", 5, x.trade(0, 1));
@@ -381,6 +371,12 @@ public final class WorldTest {
         // a line, a place, a trade that are well, and then one that isn't
         fault(-2025, "l5;p7 1 8+;p0 0 1;w0 1 5;l999;");
         fault(-2025, "l5;p7 1 8+;p0 0 1;w0 1 5;w1 1 6;");
+        Recipe some = () -> {
+            WhichDay x = some();
+            text(x, 0, "l5;p7 1 8+;w0 3 5;w0 1 6;l360;");
+            return x;
+        };
+        refused(some, "where something is", -2025, x -> x.world(0));
         fault(-1025, "l5;p7 1 8+;p0 0 1;w0 1 5;x");
         fault(-1026, "l5;p7 1 8+;p0 0 1;w0 1 5;l");
     }
@@ -388,13 +384,13 @@ public final class WorldTest {
     private static void rowStays() {
         says("The ROW that is read stays there");
         WhichDay x = new WhichDay();
-        Bench.text(x, 4, "l7;");
+        text(x, 4, "l7;");
         for (int i = 0; i < 3; i++) {
             due("read once more", 1, x.world(4));
             due("first", 'l', x.element(4, 0));
             due("second", '7', x.element(4, 1));
             due("third", ';', x.element(4, 2));
-            due("no more", Long.MAX_VALUE, Bench.element(x, 4, 3));
+            due("no more", Long.MAX_VALUE, element(x, 4, 3));
         }
         x.put(4, 2, 'x');
         due("a fault", -1002, x.world(4));
@@ -403,15 +399,15 @@ public final class WorldTest {
 
     private static void notARowOfBytes() {
         says("-1, -11, -12 (no ROW of bytes)");
-        Bench.refused(SOME, "nothing", -11, x -> x.world(0));
-        Bench.refused(SOME, "a traveller", -12, x -> x.world(1));
-        Bench.refused(SOME, "shorts", -12, x -> x.world(3));
-        Bench.refused(SOME, "ints", -12, x -> x.world(4));
-        Bench.refused(SOME, "no ints", -12, x -> x.world(5));
-        Bench.refused(SOME, "bytes that are no text", -1000, x -> x.world(2));
-        Bench.refused(FULL, "a traveller", -12, x -> x.world(7));
+        refused(SOME, "nothing", -11, x -> x.world(0));
+        refused(SOME, "a traveller", -12, x -> x.world(1));
+        refused(SOME, "shorts", -12, x -> x.world(3));
+        refused(SOME, "ints", -12, x -> x.world(4));
+        refused(SOME, "no ints", -12, x -> x.world(5));
+        refused(SOME, "bytes that are no text", -1000, x -> x.world(2));
+        refused(FULL, "a traveller", -12, x -> x.world(7));
         WhichDay x = new WhichDay();
-        x.row(0, Bench.SHORTS, 3);
+        x.row(0, SHORTS, 3);
         String line = "l7;";
         for (int i = 0; i < 3; i++) x.put(0, i, line.charAt(i));
         due("a text of shorts", -12, x.world(0));
