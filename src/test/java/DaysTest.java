@@ -30,6 +30,7 @@ public final class DaysTest extends Bench {
         partFromOn();
         partNone();
         partTwoKinds();
+        noneAt20000();
         gain();
         wrongEachOnce();
         wrongUnlike();
@@ -426,6 +427,30 @@ public final class DaysTest extends Bench {
         WhichDay settled = with("p0 0 1;p0 0 1+;", HOME, 0, 1);
         settled.leg(0, 1, true, 0, 1);
         due("its stay stays", 1500, settled.part(0, HOME, SETTLED, 0));
+    }
+
+    private static void noneAt20000() {
+        says("-4 none: what would be at 20000 only, a minute behind the last");
+        // at 40 degrees a day begins at 18560 and would at 20000; at 41 degrees at 19996; at 0 at 18720
+        WhichDay x = with("p40 0 1;p41 0 1;p0 0 1+;p0 0 1;", HOME, 0, 0);
+        x.traveller(HOME, 1, 0);
+        x.traveller(HOME, 2, 0);
+        due("a duty", -4, x.duty(0, 18560, 1));
+        due("a duty, a minute ahead", 18560, x.duty(0, 18559, 1));
+        due("a duty inside", 19996, x.duty(1, 18560, 1));
+        due("a long day", -4, x.longDay(0, 18560));
+        due("a long day inside", 1440, x.longDay(1, 18556));
+        due("agree", -4, x.agree(0, 2, 18720));
+        due("agree, a minute ahead", 18719, x.agree(0, 2, 18719));
+        due("agree inside", 19996, x.agree(1, 2, 18720));
+        // in place 3 from 60 on, whose day 13 is from 18720 on
+        x.leg(0, 3, true, 0, 1);
+        x.leg(1, 3, true, 0, 1);
+        due("parted", -4, x.part(0, HOME, PLACE, 18720));
+        due("parted, a minute ahead", 18719, x.part(0, HOME, PLACE, 18719));
+        due("parted inside", 19996, x.part(1, HOME, PLACE, 18720));
+        due("a day that would begin then", 0, x.often(0, 14, LAST));
+        due("one that begins inside", 1, x.often(1, 14, LAST));
     }
 
     private static void gain() {
