@@ -46,6 +46,7 @@ public final class RefusalTest extends Bench {
         orderOfCopy();
         orderInRows();
         thousandMillionsLess();
+        noneChangesNothing();
         nothingElseThrown();
         finish();
     }
@@ -609,6 +610,20 @@ public final class RefusalTest extends Bench {
             refused(broken, "kept by no minute behind others", -13, w -> w.kept(0, 0, day));
             refused(broken, "plan by no minute behind others", -13, w -> w.plan(0, 0, day));
         }
+    }
+
+    private static void noneChangesNothing() {
+        says("A refused call changes nothing: -4 none");
+        refused(SOME, "under way", -4, w -> w.in(0, 101));
+        refused(SOME, "begins", -4, w -> w.begins(0, LAST));
+        refused(SOME, "longDay", -4, w -> w.longDay(0, LAST));
+        refused(SOME, "duty", -4, w -> w.duty(0, LAST, 1));
+        refused(SOME, "agree", -4, w -> w.agree(0, 1, LAST));
+        refused(SOME, "part", -4, w -> w.part(0, OWN, SHIP, 0));
+        refused(SOME, "judge", -4, w -> w.judge(0, 5, 0, 1));
+        refused(SOME, "kept", -4, w -> w.kept(0, 4, 6));
+        // at 101 of 60 minutes it is day 0 on both ways
+        refused(SOME, "plan", -4, w -> w.plan(0, 4, 0));
     }
 
     private static final int[] EDGES = {0, -1, 1, 2, 3, 7, 8, 10, 100, 101, LAST, LAST + 1, MIN, MAX};
