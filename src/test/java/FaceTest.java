@@ -1,3 +1,6 @@
+import java.io.DataInputStream;
+import java.io.IOException;
+import java.io.InputStream;
 import java.lang.reflect.Constructor;
 import java.lang.reflect.Field;
 import java.lang.reflect.Method;
@@ -24,6 +27,9 @@ public final class FaceTest {
         "\\bpackage\\b", "\\bgetMessage\\b", "\\bRuntimeException\\b", "\\bIndexOutOfBounds", "\\bNullPointer", "\\bThrowable\\b",
         "\\bException\\b", "\\bArithmeticException\\b", "\\bClassCast", "Exact\\(", "\\bdouble\\b", "\\bfloat\\b", "\\bnative\\b",
         "\\bprotected\\b", "\\bthis\\b"};
+    /** Of what LANGUAGE.md's rule 4 and 6 leave, that which the class has a use for. */
+    private static final String LIBRARY = "java/lang/Object\\.<init>|java/lang/Math\\.(floorDiv|floorMod|min|max|abs)"
+        + "|java/lang/System\\.arraycopy|java/lang/(IllegalState|IllegalArgument|UnsupportedOperation)Exception\\.<init>";
 
     private static int wrong = 0;
 
@@ -31,6 +37,7 @@ public final class FaceTest {
         members();
         insides();
         source();
+        library();
         System.out.println(wrong == 0 ? "the face is the document's" : wrong + " faults of the face");
         if (wrong != 0) System.exit(1);
     }
@@ -96,6 +103,42 @@ public final class FaceTest {
         for (int i = 0; i < lines.length; i++) {
             if (lines[i].matches(" {4,8}[A-Za-z].*\\) (throws .*)?\\{")) begun = i;
             must(i - begun < 60 || !lines[i].matches(" {4,8}\\}"), "a method of over sixty lines ends at line " + (i + 1));
+        }
+    }
+
+    private static void library() throws IOException {
+        library(WhichDay.class);
+        for (Class<?> c : WhichDay.class.getDeclaredClasses()) library(c);
+    }
+
+    /** Looks through the numbered constants of a compiled class, in which each method that it calls stands. */
+    private static void library(Class<?> c) throws IOException {
+        String file = c.getName() + ".class";
+        try (InputStream bytes = c.getResourceAsStream(file); DataInputStream in = new DataInputStream(bytes)) {
+            in.skipBytes(8);
+            int size = in.readUnsignedShort();
+            String[] texts = new String[size];
+            int[][] pairs = new int[size][];
+            int[] sorts = new int[size];
+            for (int i = 1; i < size; i++) {
+                sorts[i] = in.readUnsignedByte();
+                switch (sorts[i]) {
+                    case 1 -> texts[i] = in.readUTF();
+                    case 7, 8, 16, 19, 20 -> pairs[i] = new int[] {in.readUnsignedShort()};
+                    case 15 -> in.skipBytes(3);
+                    case 5, 6 -> {
+                        in.skipBytes(8);
+                        i++;
+                    }
+                    default -> pairs[i] = new int[] {in.readUnsignedShort(), in.readUnsignedShort()};
+                }
+            }
+            for (int i = 1; i < size; i++) {
+                must(sorts[i] != 17 && sorts[i] != 18, "a lambda, a method reference or texts joined by + in " + file);
+                if (sorts[i] != 10 && sorts[i] != 11) continue;
+                String called = texts[pairs[pairs[i][0]][0]] + "." + texts[pairs[pairs[i][1]][0]];
+                must(called.startsWith("WhichDay") || called.matches(LIBRARY), "of the library: " + called + " in " + file);
+            }
         }
     }
 }
